@@ -16,6 +16,7 @@ public final class CallTest {
         callLost();
         callComes();
         callComesAgain();
+        callAtAnotherSlot();
         callComesToFreedObject();
         clientsApart();
         valueWraps();
@@ -138,6 +139,29 @@ public final class CallTest {
         c.due("only the new reply flies", x.flight(), 1);
         message(x, 0, ANSWER, 0, 1, 0, 2, 6);
         c.due("value", x.slot(0, 0, 2), 6);
+    }
+
+    private static void callAtAnotherSlot() {
+        c.promise(7, "call for a surrogate that is not at slot 0");
+        LeasedReferences x = new LeasedReferences();
+        x.make(2, 0);
+        x.make(1, 0);
+        x.make(3, 0);
+        x.pass(3, 0, 1, 2);
+        Scenes.deliverOldest(x, 4);
+        c.due("slot 1", x.root(1, 2), 1);
+        c.due("call", x.call(1, 2, 30), 1);
+        message(x, 0, CALL, 1, 3, 2, 1, 30);
+        x.tick(3);
+        message(x, 1, CALL, 1, 3, 2, 1, 30);
+        x.drop(1, 0);
+        x.drop(1, 2);
+        c.due("only slot 1 is kept", x.collect(1), 1);
+        c.due("slot 1", x.slot(1, 1, 0), 2);
+        x.deliver(0);
+        message(x, 1, ANSWER, 3, 1, 2, 1, 30);
+        x.deliver(0);
+        message(x, 1, ANSWER, 3, 1, 2, 1, 30);
     }
 
     private static void callComesToFreedObject() {

@@ -6,6 +6,7 @@ public final class NetworkTest {
     public static void main(String[] args) {
         deliver();
         deliverFull();
+        manyTakenOut();
         lose();
         copy();
         flight();
@@ -54,6 +55,28 @@ public final class NetworkTest {
         c.due("DIRTY", x.message(31, 0), 2);
         c.due("with its serial", x.message(31, 3), 0);
         c.due("oldest stays", x.message(0, 0), 0);
+    }
+
+    private static void manyTakenOut() {
+        c.promise(8, "places stay apart after many were taken out");
+        LeasedReferences x = Scenes.known();
+        x.pass(0, 0, 1, 1);
+        Scenes.fillFlight(x);
+        for (int i = 0; i < 32; i++) {
+            c.due("lose", x.lose(i % 2 == 0 ? 0 : x.flight() - 1), true);
+        }
+        for (int i = 0; i < 31; i++) {
+            x.call(1, 0, i);
+            x.deliver(i);
+            x.copy(i);
+            c.due("the answer comes, its copy stays", x.deliver(i), 1);
+        }
+        int sum = 0;
+        for (int i = 0; i < 31; i++) {
+            sum += i;
+            c.due("the number at " + i, x.message(i, 4), i + 1);
+            c.due("the value at " + i, x.message(i, 5), sum);
+        }
     }
 
     private static void lose() {

@@ -233,6 +233,18 @@ public final class ObjectsTest {
         x.make(0, 0);
         c.due("a new object has no field", x.slot(0, 0, 3), -1);
         c.due("and its own serial", x.slot(0, 0, 1), 1);
+
+        x = Scenes.known();
+        x.call(1, 0, 6);
+        Scenes.deliverOldest(x, 2);
+        c.due("value", x.slot(0, 0, 2), 6);
+        x.drop(0, 0);
+        x.drop(1, 0);
+        x.collect(1);
+        x.deliver(0);
+        x.collect(0);
+        x.make(0, 0);
+        c.due("a new object's value", x.slot(0, 0, 2), 0);
     }
 
     private static void slotOfSurrogate() {

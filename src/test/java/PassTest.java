@@ -59,6 +59,15 @@ public final class PassTest {
         message(x, 2, PASS, 0, 1, 0, 2, 4);
         x.drop(2, 1);
         c.due("the pin keeps the slot", x.collect(2), 0);
+        x.make(2, 0);
+        x.make(2, 2);
+        x.pass(2, 0, 3, 0);
+        x.drop(2, 0);
+        x.drop(2, 2);
+        c.due("each its own slot", x.collect(2), 1);
+        c.due("slot 0", x.slot(2, 0, 0), 1);
+        c.due("slot 1", x.slot(2, 1, 0), 1);
+        c.due("slot 2", x.slot(2, 2, 0), 0);
     }
 
     private static void passOfSurrogate() {

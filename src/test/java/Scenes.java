@@ -3,7 +3,7 @@ final class Scenes {
     private Scenes() {
     }
 
-    /** Node 0 has object 0 at slot 0 and root 0, and node 1 a GOOD surrogate for it at slot 0 and root 0; nothing flies. */
+    /** Node 0 has object 0, and node 1 a GOOD surrogate for it, each at slot 0 and root 0; nothing flies. */
     static LeasedReferences known() {
         LeasedReferences x = new LeasedReferences();
         x.make(0, 0);

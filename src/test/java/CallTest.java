@@ -1,8 +1,5 @@
 /** Promises 7 and 20, and what CALL, ANSWER and NOOBJECT do when they come (promise 8). */
 public final class CallTest {
-    private static final int CALL = 6;
-    private static final int ANSWER = 7;
-    private static final int NOOBJECT = 8;
     private static final int NONE_YET = 0;
     private static final int WAITING = 1;
     private static final int DONE = 2;
@@ -25,22 +22,16 @@ public final class CallTest {
         c.end();
     }
 
-    private static void message(LeasedReferences x, int k, int... parts) {
-        for (int i = 0; i < parts.length; i++) {
-            c.due("message part " + i, x.message(k, i), parts[i]);
-        }
-    }
-
     private static void call() {
         c.promise(7, "call");
         LeasedReferences x = Scenes.known();
         c.due("the first number", x.call(1, 0, -1), 1);
         c.due("WAITING", x.outcome(1, 0), WAITING);
         c.due("one message", x.flight(), 1);
-        message(x, 0, CALL, 1, 0, 0, 1, -1);
+        c.message(x, 0, Kind.CALL, 1, 0, 0, 1, -1);
         Scenes.deliverOldest(x, 2);
         c.due("the second", x.call(1, 0, 7), 2);
-        message(x, 0, CALL, 1, 0, 0, 2, 7);
+        c.message(x, 0, Kind.CALL, 1, 0, 0, 2, 7);
         x.drop(1, 0);
         c.due("its surrogate is kept while it waits", x.collect(1), 0);
         Scenes.deliverOldest(x, 2);
@@ -102,7 +93,7 @@ public final class CallTest {
         c.due("not yet sent again", x.flight(), 0);
         x.tick(1);
         c.due("sent again", x.flight(), 1);
-        message(x, 0, CALL, 1, 0, 0, 1, 9);
+        c.message(x, 0, Kind.CALL, 1, 0, 0, 1, 9);
     }
 
     private static void callComes() {
@@ -111,12 +102,12 @@ public final class CallTest {
         x.call(1, 0, 5);
         c.due("done", x.deliver(0), 1);
         c.due("value", x.slot(0, 0, 2), 5);
-        message(x, 0, ANSWER, 0, 1, 0, 1, 5);
+        c.message(x, 0, Kind.ANSWER, 0, 1, 0, 1, 5);
         x.deliver(0);
         x.call(1, 0, -7);
         x.deliver(0);
         c.due("value", x.slot(0, 0, 2), -2);
-        message(x, 0, ANSWER, 0, 1, 0, 2, -2);
+        c.message(x, 0, Kind.ANSWER, 0, 1, 0, 2, -2);
     }
 
     private static void callComesAgain() {
@@ -130,14 +121,14 @@ public final class CallTest {
         c.due("DONE", x.outcome(1, 0), DONE);
         c.due("the latest: not dropped", x.deliver(0), 1);
         c.due("not added again", x.slot(0, 0, 2), 5);
-        message(x, 1, ANSWER, 0, 1, 0, 1, 5);
+        c.message(x, 1, Kind.ANSWER, 0, 1, 0, 1, 5);
         x.lose(1);
         x.call(1, 0, 1);
         x.deliver(1);
         c.due("value", x.slot(0, 0, 2), 6);
         c.due("an older one is dropped", x.deliver(0), 0);
         c.due("only the new reply flies", x.flight(), 1);
-        message(x, 0, ANSWER, 0, 1, 0, 2, 6);
+        c.message(x, 0, Kind.ANSWER, 0, 1, 0, 2, 6);
         c.due("value", x.slot(0, 0, 2), 6);
     }
 
@@ -151,17 +142,17 @@ public final class CallTest {
         Scenes.deliverOldest(x, 4);
         c.due("slot 1", x.root(1, 2), 1);
         c.due("call", x.call(1, 2, 30), 1);
-        message(x, 0, CALL, 1, 3, 2, 1, 30);
+        c.message(x, 0, Kind.CALL, 1, 3, 2, 1, 30);
         x.tick(3);
-        message(x, 1, CALL, 1, 3, 2, 1, 30);
+        c.message(x, 1, Kind.CALL, 1, 3, 2, 1, 30);
         x.drop(1, 0);
         x.drop(1, 2);
         c.due("only slot 1 is kept", x.collect(1), 1);
         c.due("slot 1", x.slot(1, 1, 0), 2);
         x.deliver(0);
-        message(x, 1, ANSWER, 3, 1, 2, 1, 30);
+        c.message(x, 1, Kind.ANSWER, 3, 1, 2, 1, 30);
         x.deliver(0);
-        message(x, 1, ANSWER, 3, 1, 2, 1, 30);
+        c.message(x, 1, Kind.ANSWER, 3, 1, 2, 1, 30);
     }
 
     private static void callComesToFreedObject() {
@@ -175,10 +166,10 @@ public final class CallTest {
         c.due("freed", x.collect(0), 1);
         c.due("not dropped", x.deliver(0), 1);
         int last = x.flight() - 1;
-        message(x, last, NOOBJECT, 0, 1, 0, 1, 0);
+        c.message(x, last, Kind.NOOBJECT, 0, 1, 0, 1, 0);
         x.make(0, 0);
         c.due("the kept reply again", x.deliver(0), 1);
-        message(x, x.flight() - 1, NOOBJECT, 0, 1, 0, 1, 0);
+        c.message(x, x.flight() - 1, Kind.NOOBJECT, 0, 1, 0, 1, 0);
         c.due("the new object is another", x.slot(0, 0, 2), 0);
     }
 
@@ -203,7 +194,7 @@ public final class CallTest {
         c.due("node 2's first", x.call(2, 0, 1), 1);
         c.due("done", x.deliver(0), 1);
         c.due("value", x.slot(0, 0, 2), 11);
-        message(x, 0, ANSWER, 0, 2, 0, 1, 11);
+        c.message(x, 0, Kind.ANSWER, 0, 2, 0, 1, 11);
     }
 
     private static void valueWraps() {
@@ -237,7 +228,7 @@ public final class CallTest {
         c.due("RESULT stays", x.outcome(1, 2), 6);
 
         x = goneWhileGood();
-        c.due("NOOBJECT", x.message(0, 0), NOOBJECT);
+        c.due("NOOBJECT", x.message(0, 0), Kind.NOOBJECT);
         x.copy(0);
         c.due("not dropped", x.deliver(0), 1);
         c.due("FAILED", x.outcome(1, 0), FAILED);

@@ -2,18 +2,23 @@
 final class Checks {
     private int wrong;
     private int checked;
-    private String promise = "";
+    private String about = "";
 
     /** The promise that the checks from here on belong to. */
     void promise(int number, String what) {
-        promise = "promise " + number + ", " + what;
+        about = "promise " + number + ", " + what;
+    }
+
+    /** The document's own words that the checks from here on belong to. */
+    void sentence(String words) {
+        about = "'" + words + "'";
     }
 
     void due(String call, int got, int want) {
         checked++;
         if (got != want) {
             wrong++;
-            System.out.println(promise + ": " + call + " answered " + got + ", due is " + want);
+            System.out.println(about + ": " + call + " answered " + got + ", due is " + want);
         }
     }
 
@@ -21,12 +26,18 @@ final class Checks {
         checked++;
         if (got != want) {
             wrong++;
-            System.out.println(promise + ": " + call + " answered " + got + ", due is " + want);
+            System.out.println(about + ": " + call + " answered " + got + ", due is " + want);
         }
     }
 
     void isTrue(String what, boolean holds) {
         due(what, holds, true);
+    }
+
+    void message(LeasedReferences x, int k, int... parts) {
+        for (int which = 0; which < parts.length; which++) {
+            due("message(" + k + ", " + which + ")", x.message(k, which), parts[which]);
+        }
     }
 
     void end() {

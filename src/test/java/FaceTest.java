@@ -7,6 +7,7 @@ import java.nio.file.Path;
 import java.util.Arrays;
 import java.util.Set;
 import java.util.TreeSet;
+import java.util.regex.Matcher;
 import java.util.regex.Pattern;
 
 /** The public face of the document, and those rules of LANGUAGE.md that can be seen by a machine. */
@@ -21,8 +22,10 @@ public final class FaceTest {
     private static final String[] RULED_OUT = {
         "\\bthrow\\b", "\\btry\\b", "\\bcatch\\b", "\\bsynchronized\\b", "\\bassert\\b", "->", "::", "\\bstatic\\s*\\{",
         "\\bprotected\\b", "\\bpackage\\b", "\\bSystem\\.(?!arraycopy)", "\\bequals\\b|\\bhashCode\\b|\\btoString\\b",
-        "\\bimport (?!java\\.util\\.Arrays;)",
+        "\\bimport (?!java\\.util\\.Arrays;)", "\\bArrays\\.(?!fill\\()", "\\bMath\\.(?!max\\(|min\\()", "\\bwhile\\b",
+        "\\bdo\\b", "\\binstanceof\\b", "\\bThread\\b", "\\bRandom\\b", "\\bnative\\b", "\\bvolatile\\b",
     };
+    private static final int LONGEST_METHOD = 60;
     private static final Checks c = new Checks();
 
     public static void main(String[] args) throws IOException {
@@ -31,6 +34,7 @@ public final class FaceTest {
         members();
         nested();
         source();
+        methodsInSource();
         c.end();
     }
 
@@ -79,6 +83,11 @@ public final class FaceTest {
             c.isTrue(each + " is static", Modifier.isStatic(modifiers));
             c.isTrue(each + " is not public", !Modifier.isPublic(modifiers) && !Modifier.isProtected(modifiers));
             c.isTrue(each + " has at most twenty fields", each.getDeclaredFields().length <= 20);
+            for (Method method : each.getDeclaredMethods()) {
+                c.isTrue(method + " has at most seven parameters", method.getParameterCount() <= 7);
+                c.isTrue(method + " bears no public name",
+                        Arrays.stream(FACE).noneMatch(face -> face.contains(" " + method.getName() + "(")));
+            }
         }
     }
 
@@ -88,5 +97,32 @@ public final class FaceTest {
         for (String rule : RULED_OUT) {
             c.isTrue("no " + rule, !Pattern.compile(rule).matcher(code).find());
         }
+        c.isTrue("no text beyond character 255", text.chars().allMatch(each -> each <= 255));
+    }
+
+    /** By the indentation: a method ends with the brace that stands where it begins. */
+    private static void methodsInSource() throws IOException {
+        Pattern head = Pattern.compile("^( +)[\\w\\[\\] ]*\\b(\\w+)\\(.*\\) \\{$");
+        String indent = "";
+        String name = "";
+        int lines = 0;
+        for (String line : Files.readAllLines(Path.of("src/main/java/LeasedReferences.java"))) {
+            Matcher match = head.matcher(line);
+            boolean begins = name.isEmpty() && match.matches();
+            if (begins) {
+                indent = match.group(1);
+                name = match.group(2);
+                lines = 0;
+            }
+            lines++;
+            // rows are made in constructors, whose names alone begin with a capital
+            c.isTrue(name + " makes nothing", name.isEmpty() || Character.isUpperCase(name.charAt(0))
+                    || !line.contains("new "));
+            if (!name.isEmpty() && line.equals(indent + "}")) {
+                c.isTrue(name + " is short", lines <= LONGEST_METHOD);
+                name = "";
+            }
+        }
+        c.isTrue("each method ends", name.isEmpty());
     }
 }

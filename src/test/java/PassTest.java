@@ -1,11 +1,5 @@
 /** Promises 6, 18 and 19, and what PASS, TAKEN, DIRTY, LISTED, GONE and CLEAN do when they come (promise 8). */
 public final class PassTest {
-    private static final int PASS = 0;
-    private static final int TAKEN = 1;
-    private static final int DIRTY = 2;
-    private static final int LISTED = 3;
-    private static final int GONE = 4;
-    private static final int CLEAN = 5;
     private static final Checks c = new Checks();
 
     public static void main(String[] args) {
@@ -34,15 +28,6 @@ public final class PassTest {
         c.end();
     }
 
-    private static void message(LeasedReferences x, int k, int kind, int sender, int receiver, int... rest) {
-        c.due("kind", x.message(k, 0), kind);
-        c.due("sender", x.message(k, 1), sender);
-        c.due("receiver", x.message(k, 2), receiver);
-        for (int i = 0; i < rest.length; i++) {
-            c.due("message part " + (3 + i), x.message(k, 3 + i), rest[i]);
-        }
-    }
-
     private static void pass() {
         c.promise(6, "pass of an object");
         LeasedReferences x = new LeasedReferences();
@@ -50,13 +35,13 @@ public final class PassTest {
         x.make(2, 1);
         c.due("pass", x.pass(2, 1, 3, 2), 0);
         c.due("one message", x.flight(), 1);
-        message(x, 0, PASS, 2, 3, 1, 0, 4 * 2 + 2);
+        c.message(x, 0, Kind.PASS, 2, 3, 1, 0, 4 * 2 + 2);
         c.due("a pin", x.pins(2), 1);
         c.due("ids go over all nodes", x.pass(0, 0, 1, 0), 1);
-        message(x, 1, PASS, 0, 1, 0, 1, 0);
+        c.message(x, 1, Kind.PASS, 0, 1, 0, 1, 0);
         x.crash(1);
         c.due("to a crashed node", x.pass(0, 0, 1, 1), 2);
-        message(x, 2, PASS, 0, 1, 0, 2, 4);
+        c.message(x, 2, Kind.PASS, 0, 1, 0, 2, 4);
         x.drop(2, 1);
         c.due("the pin keeps the slot", x.collect(2), 0);
         x.make(2, 0);
@@ -74,7 +59,7 @@ public final class PassTest {
         c.promise(6, "pass of a surrogate");
         LeasedReferences x = Scenes.known();
         c.due("pass", x.pass(1, 0, 3, 2), 1);
-        message(x, 0, PASS, 1, 3, 0, 1, 4 * 2);
+        c.message(x, 0, Kind.PASS, 1, 3, 0, 1, 4 * 2);
         x.deliver(0);
         c.due("node 3 asks the owner", x.message(0, 2), 0);
         x.drop(1, 0);
@@ -87,7 +72,7 @@ public final class PassTest {
         c.due("back to its owner", x.pass(1, 0, 0, 2), 1);
         c.due("comes", x.deliver(0), 1);
         c.due("the owner's root refers to the object", x.root(0, 2), 0);
-        message(x, 0, TAKEN, 0, 1, 0, 1, 0);
+        c.message(x, 0, Kind.TAKEN, 0, 1, 0, 1, 0);
     }
 
     private static void passRefused() {
@@ -232,7 +217,7 @@ public final class PassTest {
         c.due("expiry", x.slot(1, 1, 3), 31);
         c.due("owner", x.slot(1, 1, 4), 0);
         c.due("one message", x.flight(), 1);
-        message(x, 0, DIRTY, 1, 0, 0, 1, 7);
+        c.message(x, 0, Kind.DIRTY, 1, 0, 0, 1, 7);
         c.due("the pin stays", x.pins(0), 1);
     }
 
@@ -244,7 +229,7 @@ public final class PassTest {
         x.copy(0);
         c.due("it has the object", x.deliver(0), 1);
         c.due("root", x.root(0, 1), 0);
-        message(x, 1, TAKEN, 0, 1, 0, 1, 0);
+        c.message(x, 1, Kind.TAKEN, 0, 1, 0, 1, 0);
         c.due("the pin ends", x.deliver(1), 1);
         c.due("pins", x.pins(1), 0);
         x.drop(0, 0);
@@ -266,7 +251,7 @@ public final class PassTest {
         c.due("not dropped", x.deliver(0), 1);
         c.due("root", x.root(1, 2), 0);
         c.due("one message", x.flight(), 1);
-        message(x, 0, TAKEN, 1, 0, 0, 1, 0);
+        c.message(x, 0, Kind.TAKEN, 1, 0, 0, 1, 0);
         c.due("no second surrogate", x.slot(1, 1, 0), 0);
     }
 
@@ -286,7 +271,7 @@ public final class PassTest {
         x.deliver(0);
         x.deliver(0);
         c.due("one TAKEN, for the latest pass", x.flight(), 1);
-        message(x, 0, TAKEN, 1, 2, 0, 2, 0);
+        c.message(x, 0, Kind.TAKEN, 1, 2, 0, 2, 0);
         x.deliver(0);
         c.due("node 2's pin ended", x.pins(2), 0);
         c.due("node 0's did not", x.pins(0), 1);
@@ -307,10 +292,10 @@ public final class PassTest {
         c.due("PENDING", x.slot(1, 0, 2), 0);
         c.due("expiry", x.slot(1, 0, 3), 48);
         c.due("one message", x.flight(), 1);
-        message(x, 0, DIRTY, 1, 0, 0, 5, 24);
+        c.message(x, 0, Kind.DIRTY, 1, 0, 0, 5, 24);
         x.deliver(0);
         c.due("LISTED comes", x.deliver(0), 1);
-        message(x, 0, TAKEN, 1, 0, 0, 1, 0);
+        c.message(x, 0, Kind.TAKEN, 1, 0, 0, 1, 0);
         c.due("SENT was anew", x.tick(5), true);
         c.due("no DIRTY yet", x.flight(), 1);
         x.tick(1);
@@ -383,11 +368,11 @@ public final class PassTest {
         x.tick(2);
         c.due("listed", x.deliver(0), 1);
         c.due("for 24 from now", x.listing(0, 0, 1), 24);
-        message(x, 2, LISTED, 0, 1, 0, 1, 0);
+        c.message(x, 2, Kind.LISTED, 0, 1, 0, 1, 0);
         x.tick(3);
         c.due("the same number while the listing lasts", x.deliver(0), 1);
         c.due("is not for longer", x.listing(0, 0, 1), 21);
-        message(x, 2, LISTED, 0, 1, 0, 1, 0);
+        c.message(x, 2, Kind.LISTED, 0, 1, 0, 1, 0);
         x.lose(1);
         x.lose(1);
         x.tick(12);
@@ -396,7 +381,7 @@ public final class PassTest {
         x.copy(0);
         int flying = x.flight();
         c.due("still lasts", x.deliver(0), 1);
-        c.due("LISTED is sent", x.message(x.flight() - 1, 0), LISTED);
+        c.due("LISTED is sent", x.message(x.flight() - 1, 0), Kind.LISTED);
         x.tick(1);
         c.due("ended", x.listing(0, 0, 1), 0);
         c.due("the copy", x.message(flying - 2, 4), 1);
@@ -417,7 +402,7 @@ public final class PassTest {
         x.tick(12);
         c.due("freed", x.collect(0), 1);
         c.due("not dropped", x.deliver(0), 1);
-        message(x, x.flight() - 1, GONE, 0, 1, 0, 1, 2);
+        c.message(x, x.flight() - 1, Kind.GONE, 0, 1, 0, 1, 2);
     }
 
     private static void dirtyAfterSlotIsUsedAgain() {
@@ -464,7 +449,7 @@ public final class PassTest {
         c.due("the later one first", x.deliver(1), 1);
         c.due("GOOD", x.slot(1, 0, 2), 1);
         c.due("EXTRA + 24", x.slot(1, 0, 3), 31);
-        c.due("TAKEN", x.message(1, 0), TAKEN);
+        c.due("TAKEN", x.message(1, 0), Kind.TAKEN);
         c.due("the earlier one is not dropped", x.deliver(0), 1);
         c.due("but the expiry stays", x.slot(1, 0, 3), 31);
         c.due("no second TAKEN", x.flight(), 1);
@@ -488,9 +473,9 @@ public final class PassTest {
         c.due("STALE", x.slot(1, 0, 2), 2);
         int last = 0;
         for (int k = 0; k < x.flight(); k++) {
-            last = x.message(k, 0) == LISTED ? k : last;
+            last = x.message(k, 0) == Kind.LISTED ? k : last;
         }
-        c.due("a LISTED flies", x.message(last, 0), LISTED);
+        c.due("a LISTED flies", x.message(last, 0), Kind.LISTED);
         c.due("dropped: STALE", x.deliver(last), 0);
         c.due("still STALE", x.slot(1, 0, 2), 2);
 
@@ -500,7 +485,7 @@ public final class PassTest {
         Scenes.deliverOldest(x, 2);
         x.drop(1, 0);
         x.collect(1);
-        c.due("LISTED", x.message(0, 0), LISTED);
+        c.due("LISTED", x.message(0, 0), Kind.LISTED);
         c.due("dropped: no surrogate", x.deliver(0), 0);
     }
 
@@ -516,8 +501,8 @@ public final class PassTest {
         x.drop(1, 0);
         x.collect(1);
         c.due("PASS again", x.deliver(0), 1);
-        c.due("LISTED of the first surrogate", x.message(1, 0), LISTED);
-        c.due("CLEAN", x.message(2, 0), CLEAN);
+        c.due("LISTED of the first surrogate", x.message(1, 0), Kind.LISTED);
+        c.due("CLEAN", x.message(2, 0), Kind.CLEAN);
         c.due("DIRTY of the second", x.message(3, 4), 3);
         c.due("dropped", x.deliver(1), 0);
         c.due("still PENDING", x.slot(1, 0, 2), 0);
@@ -543,7 +528,7 @@ public final class PassTest {
         }
         x.collect(1);
         c.due("PASS makes a new surrogate", x.deliver(0), 1);
-        c.due("GONE", x.message(0, 0), GONE);
+        c.due("GONE", x.message(0, 0), Kind.GONE);
         c.due("dropped", x.deliver(0), 0);
         c.due("still PENDING", x.slot(1, 0, 2), 0);
     }
@@ -560,7 +545,7 @@ public final class PassTest {
         x.deliver(0);
         x.deliver(0);
         x.copy(0);
-        c.due("GONE", x.message(0, 0), GONE);
+        c.due("GONE", x.message(0, 0), Kind.GONE);
         x.tick(2);
         c.due("not dropped", x.deliver(0), 1);
         c.due("STALE", x.slot(1, 0, 2), 2);
@@ -579,7 +564,7 @@ public final class PassTest {
         x.make(2, 0);
         x.drop(1, 0);
         x.collect(1);
-        message(x, 0, CLEAN, 1, 0, 0, 2, 0);
+        c.message(x, 0, Kind.CLEAN, 1, 0, 0, 2, 0);
         x.copy(0);
         c.due("not dropped", x.deliver(0), 1);
         c.due("the listing ended", x.listing(0, 0, 1), 0);

@@ -1,8 +1,5 @@
 /** Promises 11, 12 and 13: tick, collect, crash. */
 public final class TimeTest {
-    private static final int DIRTY = 2;
-    private static final int CLEAN = 5;
-    private static final int CALL = 6;
     private static final Checks c = new Checks();
 
     public static void main(String[] args) {
@@ -43,7 +40,7 @@ public final class TimeTest {
         c.due("at 5", x.flight(), 0);
         x.tick(1);
         c.due("at 6", x.flight(), 1);
-        c.due("DIRTY", x.message(0, 0), DIRTY);
+        c.due("DIRTY", x.message(0, 0), Kind.DIRTY);
         c.due("from", x.message(0, 1), 1);
         c.due("to", x.message(0, 2), 0);
         c.due("serial", x.message(0, 3), 0);
@@ -98,7 +95,7 @@ public final class TimeTest {
         x.call(0, 0, 1);
         Scenes.loseAll(x);
         x.tick(3);
-        int[] kinds = {DIRTY, CALL, DIRTY, DIRTY, CALL, DIRTY};
+        int[] kinds = {Kind.DIRTY, Kind.CALL, Kind.DIRTY, Kind.DIRTY, Kind.CALL, Kind.DIRTY};
         int[] senders = {0, 0, 2, 2, 2, 3};
         int[] serials = {0, 0, 0, 1, 0, 2};
         c.due("six", x.flight(), kinds.length);
@@ -119,7 +116,7 @@ public final class TimeTest {
         c.due("2 ago", x.flight(), 0);
         x.tick(1);
         c.due("3 ago", x.flight(), 1);
-        c.due("CALL", x.message(0, 0), CALL);
+        c.due("CALL", x.message(0, 0), Kind.CALL);
         c.due("from", x.message(0, 1), 1);
         c.due("to", x.message(0, 2), 0);
         c.due("serial", x.message(0, 3), 0);
@@ -128,7 +125,7 @@ public final class TimeTest {
         x.tick(1);
         c.due("1 ago", x.flight(), 1);
         x.tick(2);
-        c.due("3 ago, after the DIRTY", x.message(2, 0), CALL);
+        c.due("3 ago, after the DIRTY", x.message(2, 0), Kind.CALL);
         x.deliver(0);
         x.deliver(2);
         c.due("DONE", x.outcome(1, 0), 2);
@@ -148,7 +145,7 @@ public final class TimeTest {
         x.tick(2);
         c.due("PENDING", x.slot(1, 0, 2), 0);
         c.due("WAITING", x.outcome(1, 0), 1);
-        c.due("CALL", x.message(0, 0), CALL);
+        c.due("CALL", x.message(0, 0), Kind.CALL);
     }
 
     private static void tickFailsCall() {
@@ -258,7 +255,7 @@ public final class TimeTest {
         c.due("three", x.collect(1), 3);
         c.due("two CLEANs", x.flight(), 2);
         for (int k = 0; k < 2; k++) {
-            c.due("CLEAN", x.message(k, 0), CLEAN);
+            c.due("CLEAN", x.message(k, 0), Kind.CLEAN);
             c.due("from", x.message(k, 1), 1);
             c.due("to", x.message(k, 2), 2 * k);
             c.due("serial", x.message(k, 3), k);
@@ -270,7 +267,7 @@ public final class TimeTest {
         x.drop(1, 0);
         Scenes.quietTicks(x, 24);
         c.due("a STALE one", x.collect(1), 1);
-        c.due("sends CLEAN, too", x.message(0, 0), CLEAN);
+        c.due("sends CLEAN, too", x.message(0, 0), Kind.CLEAN);
 
         x = Scenes.known();
         x.pass(0, 0, 1, 1);

@@ -23,7 +23,8 @@ public final class CallTest {
     }
 
     private static void call() {
-        c.promise(7, "call");
+        c.sentence(7, "The node's call becomes a new one, WAITING, for the surrogate to which the root refers; CALL with the "
+                + "serial, the number and the amount is sent to the owner. Answers the number.");
         LeasedReferences x = Scenes.known();
         c.due("the first number", x.call(1, 0, -1), 1);
         c.due("WAITING", x.outcome(1, 0), WAITING);
@@ -254,7 +255,8 @@ public final class CallTest {
     }
 
     private static void outcome() {
-        c.promise(20, "outcome");
+        c.sentence(20, "0 whether it is 0 NONE, 1 WAITING, 2 DONE or 3 FAILED; 1 its number, 0 when there was none; 2 the RESULT "
+                + "of the latest call that was DONE, 0 when there was none.");
         LeasedReferences x = Scenes.known();
         c.due("NONE", x.outcome(1, 0), NONE_YET);
         c.due("no number", x.outcome(1, 1), 0);

@@ -9,9 +9,14 @@ final class Checks {
         about = "promise " + number + ", " + what;
     }
 
-    /** The document's own words that the checks from here on belong to. */
+    /** Words of 'What it is' or 'Terms' that the checks from here on belong to; [..] is what is left out of them. */
     void sentence(String words) {
         about = "'" + words + "'";
+    }
+
+    /** Words of a promise that the checks from here on belong to; [..] is what is left out of them. */
+    void sentence(int promise, String words) {
+        about = "promise " + promise + ", '" + words + "'";
     }
 
     void due(String call, int got, int want) {

@@ -51,7 +51,7 @@ public final class ComingBoundsTest {
     // ---- PASS ----
 
     private static void passIntoEachRoot() {
-        c.sentence("PASS (NUMBER the id, EXTRA 4 * the number of a root + the owner)");
+        c.sentence("When a message comes to a node: PASS (NUMBER the id, EXTRA 4 * the number of a root + the owner)");
         for (int owner = 0; owner <= 3; owner++) {
             for (int into = 0; into <= 2; into++) {
                 int to = (owner + 1) % 4;
@@ -636,8 +636,8 @@ public final class ComingBoundsTest {
     // ---- CALL ----
 
     private static void callAgainstLatest() {
-        c.sentence("if NUMBER is greater than that of the latest call from c that the node has done (0 when there is "
-                + "none): it is done");
+        c.sentence("CALL from c (NUMBER its number, EXTRA an amount): if NUMBER is greater than that of the latest call from "
+                + "c that the node has done (0 when there is none): it is done");
         LeasedReferences x = Scenes.flying(Kind.CALL);
         x.copy(0);
         x.copy(0);
@@ -690,8 +690,8 @@ public final class ComingBoundsTest {
     }
 
     private static void callWraps() {
-        c.sentence("the amount is added to its value (wrapping), and the reply is ANSWER with the serial, NUMBER and the "
-                + "value as EXTRA");
+        c.sentence("it is done: if the node has the object, the amount is added to its value (wrapping), and the reply is "
+                + "ANSWER with the serial, NUMBER and the value as EXTRA");
         int most = Integer.MAX_VALUE;
         int least = Integer.MIN_VALUE;
         int[] amounts = {most - 1, 1, 1, -1, least, least, -1, most, most, 0};
@@ -731,7 +731,8 @@ public final class ComingBoundsTest {
     }
 
     private static void keptReplyIsAsItWas() {
-        c.sentence("If NUMBER is that of the latest call, the kept reply is sent again; if it is less, it is dropped.");
+        c.sentence("The reply is kept and sent. If NUMBER is that of the latest call, the kept reply is sent again; if it is "
+                + "less, it is dropped.");
         LeasedReferences x = Scenes.known();
         x.pass(0, 0, 2, 0);
         Scenes.deliverOldest(x, 4);

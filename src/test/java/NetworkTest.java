@@ -5,6 +5,7 @@ public final class NetworkTest {
 
     public static void main(String[] args) {
         deliver();
+        deliverAnswers();
         deliverFull();
         manyTakenOut();
         lose();
@@ -25,7 +26,7 @@ public final class NetworkTest {
     }
 
     private static void deliver() {
-        c.promise(8, "deliver");
+        c.sentence(8, "Takes the message at place k of the flight (0 is the oldest) out, and it comes to its receiver.");
         LeasedReferences x = threeFly();
         c.due("place 3", x.deliver(3), -1);
         for (int k : ODD) {
@@ -44,6 +45,22 @@ public final class NetworkTest {
         x.crash(0);
         c.due("from a crashed node it comes", x.deliver(0), 1);
         c.due("an empty flight", new LeasedReferences().deliver(0), -1);
+    }
+
+    private static void deliverAnswers() {
+        c.sentence(8, "Answers 0 when it is dropped, 1 when not.");
+        for (int kind = Kind.PASS; kind <= Kind.NOOBJECT; kind++) {
+            LeasedReferences x = Scenes.flying(kind);
+            x.copy(0);
+            c.due("kind " + kind, x.deliver(0), 1);
+            boolean again = kind == Kind.PASS || kind == Kind.DIRTY || kind == Kind.LISTED || kind == Kind.CALL;
+            c.due("kind " + kind + ", its copy", x.deliver(0), again ? 1 : 0);
+
+            x = Scenes.flying(kind);
+            x.crash(Scenes.receiver(kind));
+            c.due("kind " + kind + ", its receiver crashed", x.deliver(0), 0);
+            c.due("dropped is taken out, too", x.flight(), 0);
+        }
     }
 
     private static void deliverFull() {
@@ -80,7 +97,7 @@ public final class NetworkTest {
     }
 
     private static void lose() {
-        c.promise(9, "lose");
+        c.sentence(9, "Takes the message at place k out of the flight; false when k is no place.");
         LeasedReferences x = threeFly();
         c.due("place 3", x.lose(3), false);
         for (int k : ODD) {
@@ -98,7 +115,8 @@ public final class NetworkTest {
     }
 
     private static void copy() {
-        c.promise(10, "copy");
+        c.sentence(10, "Puts a copy of the message at place k at the end of the flight; false when k is no place or 32 are in "
+                + "flight.");
         LeasedReferences x = threeFly();
         c.due("place 3", x.copy(3), false);
         for (int k : ODD) {

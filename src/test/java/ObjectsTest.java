@@ -79,7 +79,8 @@ public final class ObjectsTest {
     }
 
     private static void link() {
-        c.promise(3, "link");
+        c.sentence(3, "The field of the object to which the root refers becomes what root from refers to, or nothing if from "
+                + "is -1 or refers to nothing.");
         LeasedReferences x = new LeasedReferences();
         x.make(1, 0);
         x.make(1, 1);
@@ -123,7 +124,8 @@ public final class ObjectsTest {
     }
 
     private static void fetch() {
-        c.promise(4, "fetch");
+        c.sentence(4, "Root into refers to what the field of the object to which the root refers refers to (perhaps nothing: "
+                + "then it refers to nothing).");
         LeasedReferences x = new LeasedReferences();
         x.make(0, 0);
         x.make(0, 1);
@@ -197,7 +199,8 @@ public final class ObjectsTest {
     }
 
     private static void slotOfObject() {
-        c.promise(17, "slot of an object");
+        c.sentence(17, "0 what it holds (0 nothing, 1 an object, 2 a surrogate), 1 the serial, 2 of an object its value, [..] 3 and "
+                + "4 of an object the slots that its fields 0 and 1 refer to (NONE for nothing)");
         LeasedReferences x = new LeasedReferences();
         x.make(0, 0);
         x.make(1, 0);
@@ -248,7 +251,7 @@ public final class ObjectsTest {
     }
 
     private static void slotOfSurrogate() {
-        c.promise(17, "slot of a surrogate");
+        c.sentence(17, "of a surrogate 0 PENDING, 1 GOOD, 2 STALE; [..] of a surrogate 3 the expiry and 4 the owner.");
         LeasedReferences x = new LeasedReferences();
         x.tick(3);
         x.make(1, 0);

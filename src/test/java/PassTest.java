@@ -29,7 +29,8 @@ public final class PassTest {
     }
 
     private static void pass() {
-        c.promise(6, "pass of an object");
+        c.sentence(6, "Passes what the root refers to on to root into of node to: a pin for its slot with the next id is made [..] "
+                + "and PASS with the serial, this id and EXTRA is sent. Answers the id.");
         LeasedReferences x = new LeasedReferences();
         x.make(0, 0);
         x.make(2, 1);
@@ -102,7 +103,7 @@ public final class PassTest {
     }
 
     private static void passLost() {
-        c.promise(6, "pass with 32 in flight");
+        c.sentence(6, "a pin for its slot with the next id is made (also if what is sent is lost)");
         LeasedReferences x = new LeasedReferences();
         x.make(0, 0);
         x.pass(0, 0, 1, 0);

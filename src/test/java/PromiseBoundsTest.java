@@ -48,7 +48,7 @@ public final class PromiseBoundsTest {
     }
 
     private static void newObject() {
-        c.promise(1, "All nodes, all slots empty, nothing in flight.");
+        c.sentence(1, "All nodes, all slots empty, nothing in flight.");
         LeasedReferences x = new LeasedReferences();
         c.due("flight", x.flight(), 0);
         c.due("message", x.message(0, 0), NONE);
@@ -73,7 +73,7 @@ public final class PromiseBoundsTest {
     // ---- make, link, fetch, drop ----
 
     private static void makeInLeastEmptySlot() {
-        c.promise(2, "Makes an object in the least empty slot of the node, to which the root then refers");
+        c.sentence(2, "Makes an object in the least empty slot of the node, to which the root then refers: its serial.");
         for (int root = 0; root <= 2; root++) {
             LeasedReferences x = new LeasedReferences();
             for (int k = 0; k <= 7; k++) {
@@ -91,7 +91,7 @@ public final class PromiseBoundsTest {
     }
 
     private static void makeWhenNoSlotIsEmpty() {
-        c.promise(2, "NONE, too, when no slot is empty.");
+        c.sentence(2, "NONE, too, when no slot is empty.");
         for (int held = 6; held <= 8; held++) {
             LeasedReferences x = new LeasedReferences();
             for (int i = 0; i < held; i++) {
@@ -109,7 +109,7 @@ public final class PromiseBoundsTest {
     }
 
     private static void linkFrom() {
-        c.promise(3, "becomes what root from refers to, or nothing if from is -1 or refers to nothing.");
+        c.sentence(3, "becomes what root from refers to, or nothing if from is -1 or refers to nothing.");
         for (int field = 0; field <= 1; field++) {
             for (int from = -2; from <= 3; from++) {
                 LeasedReferences x = new LeasedReferences();
@@ -130,7 +130,7 @@ public final class PromiseBoundsTest {
     }
 
     private static void linkOfNoObject() {
-        c.promise(3, "False, too, when the root does not refer to an object.");
+        c.sentence(3, "False, too, when the root does not refer to an object.");
         LeasedReferences x = Scenes.known();
         c.due("nothing", x.link(0, 1, 0, 0), false);
         c.due("nothing, from -1", x.link(0, 1, 0, -1), false);
@@ -143,7 +143,7 @@ public final class PromiseBoundsTest {
     }
 
     private static void fetchInto() {
-        c.promise(4, "Root into refers to what the field .. refers to (perhaps nothing: then it refers to nothing).");
+        c.sentence(4, "Root into refers to what the field [..] refers to (perhaps nothing: then it refers to nothing).");
         for (int into = -1; into <= 3; into++) {
             for (int field = -1; field <= 2; field++) {
                 LeasedReferences x = new LeasedReferences();
@@ -162,7 +162,7 @@ public final class PromiseBoundsTest {
     }
 
     private static void fetchFromNoObject() {
-        c.promise(4, "False, too, when the root does not refer to an object.");
+        c.sentence(4, "False, too, when the root does not refer to an object.");
         LeasedReferences x = Scenes.known();
         c.due("nothing", x.fetch(0, 1, 0, 0), false);
         c.due("a surrogate", x.fetch(1, 0, 0, 0), false);
@@ -172,7 +172,7 @@ public final class PromiseBoundsTest {
     }
 
     private static void dropMayBeSoAlready() {
-        c.promise(5, "The root refers to nothing (it may be so already).");
+        c.sentence(5, "The root refers to nothing (it may be so already).");
         for (int root = 0; root <= 2; root++) {
             LeasedReferences x = new LeasedReferences();
             c.due("nothing at first", x.drop(0, root), true);
@@ -187,7 +187,7 @@ public final class PromiseBoundsTest {
     // ---- pass ----
 
     private static void passOfNothingOrToItself() {
-        c.promise(6, "NONE, too, when to is the node itself, the root refers to nothing");
+        c.sentence(6, "NONE, too, when to is the node itself, the root refers to nothing");
         for (int node = 0; node <= 3; node++) {
             LeasedReferences x = new LeasedReferences();
             c.due("nothing", x.pass(node, 0, (node + 1) % 4, 0), NONE);
@@ -207,7 +207,7 @@ public final class PromiseBoundsTest {
     }
 
     private static void passSixPins() {
-        c.promise(6, "NONE, too, when .. six pins of the node did not end");
+        c.sentence(6, "NONE, too, when [..] or six pins of the node did not end;");
         LeasedReferences x = Scenes.known();
         for (int pins = 0; pins <= 7; pins++) {
             c.due("with " + pins, x.pass(0, 0, 2, 0), pins < 6 ? 1 + pins : NONE);
@@ -234,7 +234,7 @@ public final class PromiseBoundsTest {
     }
 
     private static void passNotGood() {
-        c.promise(6, "else STALE when it refers to a surrogate that is not GOOD.");
+        c.sentence(6, "else STALE when it refers to a surrogate that is not GOOD.");
         LeasedReferences x = Scenes.pending();
         c.due("PENDING", x.pass(1, 0, 2, 0), STALE);
         for (int after = 22; after <= 25; after++) {
@@ -256,7 +256,7 @@ public final class PromiseBoundsTest {
     }
 
     private static void passToCrashed() {
-        c.promise(6, "(to may have crashed.)");
+        c.sentence(6, "(to may have crashed.)");
         LeasedReferences x = Scenes.known();
         x.crash(2);
         c.due("an object", x.pass(0, 0, 2, 1), 1);
@@ -271,7 +271,7 @@ public final class PromiseBoundsTest {
     // ---- call ----
 
     private static void callWhileWaiting() {
-        c.promise(7, "NONE, too, when the node's call is WAITING or the root does not refer to a surrogate");
+        c.sentence(7, "NONE, too, when the node's call is WAITING or the root does not refer to a surrogate");
         LeasedReferences x = Scenes.known();
         x.make(1, 1);
         c.due("an object", x.call(1, 1, 1), NONE);
@@ -299,7 +299,7 @@ public final class PromiseBoundsTest {
     }
 
     private static void callNotGood() {
-        c.promise(7, "else STALE when this is not GOOD.");
+        c.sentence(7, "else STALE when this is not GOOD.");
         c.due("PENDING", Scenes.pending().call(1, 0, 1), STALE);
         for (int after = 22; after <= 25; after++) {
             LeasedReferences x = Scenes.known();
@@ -324,7 +324,7 @@ public final class PromiseBoundsTest {
     // ---- the flight ----
 
     private static void placesOfTheFlight() {
-        c.promise(8, "Takes the message at place k of the flight (0 is the oldest) out .. NONE when k is no place.");
+        c.sentence(8, "Takes the message at place k of the flight (0 is the oldest) out [..] NONE when k is no place.");
         int[] sizes = {0, 1, 31, 32};
         int[] far = {Integer.MIN_VALUE, Integer.MAX_VALUE};
         for (int size : sizes) {
@@ -373,7 +373,7 @@ public final class PromiseBoundsTest {
     }
 
     private static void copyUpTo32() {
-        c.promise(10, "false when k is no place or 32 are in flight.");
+        c.sentence(10, "false when k is no place or 32 are in flight.");
         for (int flying = 30; flying <= 32; flying++) {
             LeasedReferences x = distinct(flying);
             c.due("with " + flying, x.copy(0), flying < 32);
@@ -395,7 +395,7 @@ public final class PromiseBoundsTest {
     // ---- tick ----
 
     private static void tickCount() {
-        c.promise(11, "n times (1 .. 12, else false)");
+        c.sentence(11, "n times (1 .. 12, else false)");
         int[] counts = {Integer.MIN_VALUE, -1, 0, 1, 2, 11, 12, 13, 14, Integer.MAX_VALUE};
         for (int n : counts) {
             LeasedReferences x = Scenes.known();
@@ -406,7 +406,7 @@ public final class PromiseBoundsTest {
     }
 
     private static void tickIsThatOften() {
-        c.promise(11, "n times: the clock grows by 1; then ..");
+        c.sentence(11, "n times [..] the clock grows by 1; then");
         for (int n = 1; n <= 12; n++) {
             int times = n;
             c.isTrue("tick " + n + " is tick 1, so often", Twins.alike(Scenes::busy, x -> x.tick(times) ? 1 : 0, x -> {
@@ -419,7 +419,7 @@ public final class PromiseBoundsTest {
     }
 
     private static void tickSixAgo() {
-        c.promise(11, "a DIRTY is sent for a surrogate .. whose SENT was 6 or more ago");
+        c.sentence(11, "a DIRTY is sent for a surrogate [..] whose SENT was 6 or more ago;");
         for (int pending = 0; pending <= 1; pending++) {
             for (int ago = 4; ago <= 13; ago++) {
                 LeasedReferences x = pending == 1 ? Scenes.pending() : Scenes.known();
@@ -449,7 +449,7 @@ public final class PromiseBoundsTest {
     }
 
     private static void tickNotStale() {
-        c.promise(11, "a DIRTY is sent for a surrogate that is not STALE");
+        c.sentence(11, "a DIRTY is sent for a surrogate that is not STALE and");
         // SENT is 6, 12, 18 after it was made, and the next would be at the very tick of its expiry
         for (int made = 0; made <= 7; made += 7) {
             LeasedReferences x = new LeasedReferences();
@@ -478,7 +478,7 @@ public final class PromiseBoundsTest {
     }
 
     private static void tickThreeAgo() {
-        c.promise(11, "if its call WAITS and the latest sending of it was 3 or more ago: .. CALL is sent again.");
+        c.sentence(11, "if its call WAITS and the latest sending of it was 3 or more ago: [..] CALL is sent again.");
         for (int ago = 1; ago <= 7; ago++) {
             LeasedReferences x = Scenes.known();
             x.tick(6);
@@ -506,7 +506,7 @@ public final class PromiseBoundsTest {
     }
 
     private static void tickFails() {
-        c.promise(11, "if its surrogate is STALE, it FAILED, else CALL is sent again.");
+        c.sentence(11, "if its surrogate is STALE, it FAILED, else CALL is sent again.");
         for (int called = 19; called <= 23; called++) {
             LeasedReferences x = Scenes.known();
             Scenes.quietTicks(x, called);
@@ -534,7 +534,7 @@ public final class PromiseBoundsTest {
     }
 
     private static void tickOrder() {
-        c.promise(11, "for the nodes 0 to 3 that did not crash: for slots 0 to 7, a DIRTY ..; then .. CALL");
+        c.sentence(11, "then for the nodes 0 to 3 that did not crash: for slots 0 to 7, a DIRTY is sent [..] then, if its call");
         for (int crashed = -1; crashed <= 3; crashed++) {
             LeasedReferences x = everyNodeHasTwo();
             Scenes.ticks(x, 3);
@@ -575,7 +575,7 @@ public final class PromiseBoundsTest {
     // ---- collect, crash ----
 
     private static void collectCounts() {
-        c.promise(12, "COLLECTING at the node: how many slots became empty.");
+        c.sentence(12, "COLLECTING at the node: how many slots became empty.");
         for (int made = 0; made <= 8; made++) {
             LeasedReferences x = new LeasedReferences();
             for (int i = 0; i < made; i++) {
@@ -593,7 +593,7 @@ public final class PromiseBoundsTest {
     }
 
     private static void crashOnce() {
-        c.promise(13, "The node crashes (false for one that crashed).");
+        c.sentence(13, "The node crashes (false for one that crashed).");
         for (int node = 0; node <= 3; node++) {
             LeasedReferences x = new LeasedReferences();
             c.due("node " + node, x.crash(node), true);
@@ -612,7 +612,7 @@ public final class PromiseBoundsTest {
     // ---- looks ----
 
     private static void flightCounts() {
-        c.promise(14, "The number of messages in flight.");
+        c.sentence(14, "The number of messages in flight.");
         int[] sizes = {0, 1, 2, 31, 32};
         for (int size : sizes) {
             LeasedReferences x = distinct(size);
@@ -626,7 +626,8 @@ public final class PromiseBoundsTest {
     }
 
     private static void messageParts() {
-        c.promise(15, "0 the kind .. 5 EXTRA. NONE when k is no place or which is not 0 .. 5.");
+        c.sentence(15, "Of the message at place k: 0 the kind, 1 the sender, 2 the receiver, 3 SERIAL, 4 NUMBER, 5 EXTRA. NONE "
+                + "when k is no place or which is not 0 .. 5.");
         LeasedReferences x = new LeasedReferences();
         x.make(2, 0);
         x.make(3, 0);
@@ -642,7 +643,8 @@ public final class PromiseBoundsTest {
     }
 
     private static void rootLooks() {
-        c.promise(16, "The slot to which the root refers (of a node that crashed, too); NONE when it refers to nothing");
+        c.sentence(16, "The slot to which the root refers (of a node that crashed, too); NONE when it refers to nothing, or "
+                + "there is no such node or root.");
         for (int crashes = 0; crashes <= 1; crashes++) {
             LeasedReferences x = new LeasedReferences();
             for (int i = 0; i < 8; i++) {
@@ -661,7 +663,7 @@ public final class PromiseBoundsTest {
     }
 
     private static void slotParts() {
-        c.promise(17, "Of a slot (of a node that crashed, too): 0 what it holds .. NONE when there is no such node or slot, "
+        c.sentence(17, "Of a slot (of a node that crashed, too): 0 what it holds [..] NONE when there is no such node or slot, "
                 + "which is not 0 .. 4, or for 1 to 4 when it is empty.");
         for (int crashes = 0; crashes <= 1; crashes++) {
             LeasedReferences x = new LeasedReferences();
@@ -700,7 +702,7 @@ public final class PromiseBoundsTest {
     }
 
     private static void listingLooks() {
-        c.promise(18, "How much longer the listing of a node for the object in a slot lasts; 0 when it does not; NONE when "
+        c.sentence(18, "How much longer the listing of a node for the object in a slot lasts; 0 when it does not; NONE when "
                 + "the slot (of a node that crashed, too) holds no object, or client is no other node.");
         for (int crashes = 0; crashes <= 1; crashes++) {
             LeasedReferences x = Scenes.known();
@@ -725,7 +727,7 @@ public final class PromiseBoundsTest {
     }
 
     private static void pinsCount() {
-        c.promise(19, "How many pins of the node did not end (of one that crashed, too); NONE when there is no such node.");
+        c.sentence(19, "How many pins of the node did not end (of one that crashed, too); NONE when there is no such node.");
         for (int crashes = 0; crashes <= 1; crashes++) {
             LeasedReferences x = new LeasedReferences();
             x.make(3, 0);
@@ -759,8 +761,8 @@ public final class PromiseBoundsTest {
     }
 
     private static void outcomeParts() {
-        c.promise(20, "Of the node's call (of one that crashed, too): 0 .. NONE when there is no such node or which is not "
-                + "0 .. 2.");
+        c.sentence(20, "Of the node's call (of one that crashed, too): 0 whether it is [..] NONE when there is no such node or "
+                + "which is not 0 .. 2.");
         LeasedReferences x = Scenes.known();
         outcome(x, 0, 0, 0);
         x.call(1, 0, -5);

@@ -21,26 +21,27 @@ public final class RefusalsTest {
     private static final Checks c = new Checks();
 
     public static void main(String[] args) {
+        c.sentence("A call that answers NONE, STALE or false changes nothing. A node, root or field that is not there, or a "
+                + "node that crashed, makes a call answer NONE or false.");
         make();
         link();
         fetch();
         drop();
         pass();
-        passNotGood();
         call();
-        callNotGood();
         places();
         tick();
         collect();
         crash();
         looks();
         nodeLooks();
+        passNotGood();
+        callNotGood();
         whatIsThereIsNotRefused();
         c.end();
     }
 
     private static void make() {
-        c.promise(2, "make refused");
         for (int none : NO_NODES) {
             Twins.refused(c, "make in node " + none, BUSY, x -> x.make(none, 0), NONE);
         }
@@ -52,7 +53,6 @@ public final class RefusalsTest {
     }
 
     private static void link() {
-        c.promise(3, "link refused");
         for (int none : NO_NODES) {
             Twins.refused(c, "link in node " + none, BUSY, x -> x.link(none, 0, 0, 1));
         }
@@ -74,7 +74,6 @@ public final class RefusalsTest {
     }
 
     private static void fetch() {
-        c.promise(4, "fetch refused");
         for (int none : NO_NODES) {
             Twins.refused(c, "fetch in node " + none, BUSY, x -> x.fetch(none, 0, 0, 2));
         }
@@ -93,7 +92,6 @@ public final class RefusalsTest {
     }
 
     private static void drop() {
-        c.promise(5, "drop refused");
         for (int none : NO_NODES) {
             Twins.refused(c, "drop in node " + none, BUSY, x -> x.drop(none, 0));
         }
@@ -104,7 +102,6 @@ public final class RefusalsTest {
     }
 
     private static void pass() {
-        c.promise(6, "pass refused");
         for (int none : NO_NODES) {
             Twins.refused(c, "pass from node " + none, BUSY, x -> x.pass(none, 0, 1, 1), NONE);
             Twins.refused(c, "pass to node " + none, BUSY, x -> x.pass(0, 0, none, 1), NONE);
@@ -123,7 +120,7 @@ public final class RefusalsTest {
     }
 
     private static void passNotGood() {
-        c.promise(6, "else STALE when it refers to a surrogate that is not GOOD");
+        c.sentence(6, "else STALE when it refers to a surrogate that is not GOOD.");
         int[] notGood = {0, 2};
         for (int root : notGood) {
             Twins.refused(c, "pass of node 2's root " + root, BUSY, x -> x.pass(2, root, 1, 1), STALE);
@@ -144,7 +141,6 @@ public final class RefusalsTest {
     }
 
     private static void call() {
-        c.promise(7, "call refused");
         for (int none : NO_NODES) {
             Twins.refused(c, "call by node " + none, BUSY, x -> x.call(none, 0, 1), NONE);
         }
@@ -165,7 +161,7 @@ public final class RefusalsTest {
     }
 
     private static void callNotGood() {
-        c.promise(7, "else STALE when this is not GOOD");
+        c.sentence(7, "else STALE when this is not GOOD.");
         Twins.refused(c, "call of a PENDING one", BUSY, x -> x.call(2, 0, 1), STALE);
         Twins.refused(c, "call of a STALE one", BUSY, x -> x.call(2, 2, 1), STALE);
         Supplier<LeasedReferences> waiting = () -> {
@@ -184,26 +180,20 @@ public final class RefusalsTest {
         noPlaces(BUSY, notOfFive);
         noPlaces(CROWDED, notOf32);
         noPlaces(LeasedReferences::new, notOfNone);
-        c.promise(10, "copy with 32 in flight");
-        Twins.refused(c, "copy of the oldest", CROWDED, x -> x.copy(0));
-        Twins.refused(c, "copy of the newest", CROWDED, x -> x.copy(31));
+        Twins.refused(c, "copy of the oldest of 32", CROWDED, x -> x.copy(0));
+        Twins.refused(c, "copy of the newest of 32", CROWDED, x -> x.copy(31));
     }
 
     private static void noPlaces(Supplier<LeasedReferences> scene, int[] places) {
         for (int k : places) {
-            c.promise(8, "deliver refused");
-            Twins.refused(c, "deliver " + k, scene, x -> x.deliver(k), NONE);
-            c.promise(9, "lose refused");
-            Twins.refused(c, "lose " + k, scene, x -> x.lose(k));
-            c.promise(10, "copy refused");
-            Twins.refused(c, "copy " + k, scene, x -> x.copy(k));
-            c.promise(15, "message refused");
-            Twins.refused(c, "message of " + k, scene, x -> x.message(k, 0), NONE);
+                Twins.refused(c, "deliver " + k, scene, x -> x.deliver(k), NONE);
+                Twins.refused(c, "lose " + k, scene, x -> x.lose(k));
+                Twins.refused(c, "copy " + k, scene, x -> x.copy(k));
+                Twins.refused(c, "message of " + k, scene, x -> x.message(k, 0), NONE);
         }
     }
 
     private static void tick() {
-        c.promise(11, "tick refused");
         int[] no = {LEAST, -1, 0, 13, 14, MOST};
         for (int n : no) {
             Twins.refused(c, "tick " + n, BUSY, x -> x.tick(n));
@@ -211,7 +201,6 @@ public final class RefusalsTest {
     }
 
     private static void collect() {
-        c.promise(12, "collect refused");
         Supplier<LeasedReferences> dropped = () -> {
             LeasedReferences x = Scenes.known();
             x.make(1, 1);
@@ -227,7 +216,6 @@ public final class RefusalsTest {
     }
 
     private static void crash() {
-        c.promise(13, "crash refused");
         Twins.refused(c, "crash of a crashed node", BUSY, x -> x.crash(CRASHED));
         for (int none : NO_NODES) {
             Twins.refused(c, "crash of node " + none, BUSY, x -> x.crash(none));
@@ -235,12 +223,10 @@ public final class RefusalsTest {
     }
 
     private static void looks() {
-        c.promise(15, "message refused");
         int[] noParts = {LEAST, -1, 6, MOST};
         for (int none : noParts) {
             Twins.refused(c, "message, which " + none, BUSY, x -> x.message(0, none), NONE);
         }
-        c.promise(16, "root refused");
         for (int none : NO_NODES) {
             Twins.refused(c, "root of node " + none, BUSY, x -> x.root(none, 0), NONE);
         }
@@ -248,7 +234,6 @@ public final class RefusalsTest {
             Twins.refused(c, "root " + none, BUSY, x -> x.root(0, none), NONE);
         }
         Twins.refused(c, "a root that is nothing", BUSY, x -> x.root(0, 2), NONE);
-        c.promise(17, "slot refused");
         for (int none : NO_NODES) {
             Twins.refused(c, "slot of node " + none, BUSY, x -> x.slot(none, 0, 0), NONE);
         }
@@ -268,7 +253,6 @@ public final class RefusalsTest {
     }
 
     private static void nodeLooks() {
-        c.promise(18, "listing refused");
         for (int none : NO_NODES) {
             Twins.refused(c, "listing of node " + none, BUSY, x -> x.listing(none, 0, 1), NONE);
             Twins.refused(c, "listing for client " + none, BUSY, x -> x.listing(0, 0, none), NONE);
@@ -280,11 +264,9 @@ public final class RefusalsTest {
         Twins.refused(c, "listing for a crashed owner", BUSY, x -> x.listing(CRASHED, 0, CRASHED), NONE);
         Twins.refused(c, "listing of a surrogate", BUSY, x -> x.listing(2, 0, 0), NONE);
         Twins.refused(c, "listing of an empty slot", BUSY, x -> x.listing(0, 7, 1), NONE);
-        c.promise(19, "pins refused");
         for (int none : NO_NODES) {
             Twins.refused(c, "pins of node " + none, BUSY, x -> x.pins(none), NONE);
         }
-        c.promise(20, "outcome refused");
         int[] noParts = {LEAST, -1, 3, MOST};
         for (int none : NO_NODES) {
             Twins.refused(c, "outcome of node " + none, BUSY, x -> x.outcome(none, 0), NONE);

@@ -390,7 +390,7 @@ public final class TermsBoundsTest {
     }
 
     private static void callAtFirst() {
-        c.sentence("A node has a call, which is 0 NONE at first, 1 WAITING, 2 DONE or 3 FAILED");
+        c.sentence("CALLS. A node has a call, which is 0 NONE at first, 1 WAITING, 2 DONE or 3 FAILED");
         LeasedReferences x = Scenes.known();
         c.due("at first", x.outcome(1, 0), 0);
         x.call(1, 0, 1);
@@ -436,7 +436,7 @@ public final class TermsBoundsTest {
     }
 
     private static void keptByRoots() {
-        c.sentence("the slots are KEPT to which a root refers");
+        c.sentence("COLLECTING at a node: the slots are KEPT to which a root refers");
         for (int root = 0; root <= 2; root++) {
             LeasedReferences x = new LeasedReferences();
             x.make(0, root);
@@ -606,7 +606,7 @@ public final class TermsBoundsTest {
     }
 
     private static void usedFor512Calls() {
-        c.sentence("An object is used for at most 512 calls after it has been made");
+        c.sentence("An object is used for at most 512 calls after it has been made; what later calls answer is free.");
         LeasedReferences x = new LeasedReferences();
         for (int call = 1; call <= 508; call++) {
             c.due("tick, call " + call, x.tick(12), true);

@@ -1,3 +1,6 @@
+import java.util.function.Supplier;
+import java.util.function.ToIntFunction;
+
 /**
  * The sentences under 'Terms' that name a boundary, but for the coming of messages (ComingBoundsTest) and for
  * refused calls (RefusalsTest): each just below its boundary, at it, and beyond it.
@@ -21,6 +24,7 @@ public final class TermsBoundsTest {
         staleByTheClock();
         owesOrNothing();
         lostWhen32Fly();
+        comingHasRoomToSend();
         lostWhileTicking();
         lostWhileCollecting();
         numbersOfDirtysAndCleans();
@@ -254,6 +258,58 @@ public final class TermsBoundsTest {
             c.due("flight after deliver", x.flight(), flying);
             c.due("at its end", x.message(flying - 1, 0), Kind.DIRTY);
         }
+    }
+
+    /** A message that comes is out of the flight before its receiver sends, so that is never lost. */
+    private static void comingHasRoomToSend() {
+        c.sentence("what is sent is put at its end, but is lost when 32 are in flight.");
+        roomToSend("PASS", () -> Scenes.flying(Kind.PASS), Kind.DIRTY);
+        roomToSend("PASS to the owner", () -> then(Scenes.known(), x -> x.pass(1, 0, 0, 1)), Kind.TAKEN);
+        roomToSend("PASS to a GOOD one", () -> then(Scenes.known(), x -> x.pass(0, 0, 1, 1)), Kind.TAKEN);
+        roomToSend("PASS to a STALE one", () -> then(Scenes.stale(), x -> x.pass(0, 0, 1, 1)), Kind.DIRTY);
+        roomToSend("DIRTY", () -> Scenes.flying(Kind.DIRTY), Kind.LISTED);
+        roomToSend("DIRTY again", () -> again(Scenes.flying(Kind.DIRTY)), Kind.LISTED);
+        roomToSend("DIRTY for what is gone", () -> freed(Scenes.flying(Kind.PASS), 1), Kind.GONE);
+        roomToSend("LISTED", () -> Scenes.flying(Kind.LISTED), Kind.TAKEN);
+        roomToSend("CALL", () -> Scenes.flying(Kind.CALL), Kind.ANSWER);
+        roomToSend("CALL again", () -> again(Scenes.flying(Kind.CALL)), Kind.ANSWER);
+        roomToSend("CALL for what is gone", () -> freed(Scenes.flying(Kind.CALL), 0), Kind.NOOBJECT);
+    }
+
+    private static void roomToSend(String what, Supplier<LeasedReferences> scene, int sent) {
+        for (int flying = 30; flying <= 32; flying++) {
+            LeasedReferences x = scene.get();
+            c.due(what + ": one flies", x.flight(), 1);
+            Scenes.fillFlight(x, flying);
+            c.due(what + " comes, of " + flying, x.deliver(0), 1);
+            c.due(what + ": flight", x.flight(), flying);
+            c.due(what + ": what is sent is at its end", x.message(flying - 1, 0), sent);
+        }
+    }
+
+    private static LeasedReferences then(LeasedReferences x, ToIntFunction<LeasedReferences> call) {
+        call.applyAsInt(x);
+        return x;
+    }
+
+    /** The one message that flies came once, and flies again; what was sent when it came is lost. */
+    private static LeasedReferences again(LeasedReferences x) {
+        x.copy(0);
+        x.deliver(0);
+        x.lose(1);
+        return x;
+    }
+
+    /** Node 0 frees its object, then so many messages come; the one that flies is the first there was, or its child. */
+    private static LeasedReferences freed(LeasedReferences x, int come) {
+        x.drop(0, 0);
+        Scenes.ticks(x, 24);
+        while (x.flight() > 1) {
+            x.lose(1);
+        }
+        x.collect(0);
+        Scenes.deliverOldest(x, come);
+        return x;
     }
 
     /** Node 1 has two surrogates and a call that WAITS, all due at the same tick. */

@@ -18,6 +18,8 @@ public final class TermsTest {
         makersOwn();
         fieldsRefer();
         surrogatesHave();
+        surrogateInASlotUsedAgain();
+        objectInASlotUsedAgain();
         messagesHave();
         flightIsAList();
         sendsADirty();
@@ -187,6 +189,80 @@ public final class TermsTest {
         c.due("STALE", x.slot(3, 0, 2), STALE);
         c.due("the serial", x.slot(3, 0, 1), 1);
         c.due("the expiry", x.slot(3, 0, 3), 27);
+    }
+
+    /** Node 1's slot 0 held a surrogate in each state, or an object, and is emptied; then a PASS from node 2 comes. */
+    private static void surrogateInASlotUsedAgain() {
+        c.sentence("A surrogate BECOMES PENDING: it is PENDING, its expiry is the clock + 24, a DIRTY is sent for it, its "
+                + "FIRST is the number of that DIRTY, and it OWES the pass that came.");
+        for (int held = PENDING; held <= STALE + 1; held++) {
+            LeasedReferences x = held == PENDING ? Scenes.pending() : held == GOOD ? Scenes.known() : Scenes.stale();
+            if (held > STALE) {
+                x.make(1, 1);
+                x.link(1, 1, 0, 1);
+                x.link(1, 1, 1, 1);
+            }
+            x.drop(1, 0);
+            x.drop(1, 1);
+            Scenes.loseAll(x);
+            x.tick(2);
+            x.collect(1);
+            Scenes.loseAll(x);
+            int clock = held >= STALE ? 26 : 2;
+            int number = held >= STALE ? 6 : 3;
+            x.make(2, 1);
+            c.due("pass", x.pass(2, 1, 1, 2), 1);
+            int serial = x.message(0, 3);
+            c.due("it comes", x.deliver(0), 1);
+            c.due("slot 0 again", x.root(1, 2), 0);
+            c.due("a surrogate", x.slot(1, 0, 0), 2);
+            c.due("its serial", x.slot(1, 0, 1), serial);
+            c.due("PENDING", x.slot(1, 0, 2), PENDING);
+            c.due("its expiry", x.slot(1, 0, 3), clock + 24);
+            c.due("its owner", x.slot(1, 0, 4), 2);
+            c.due("no object, so no listing", x.listing(1, 0, 2), NONE);
+            c.due("one is sent", x.flight(), 1);
+            c.message(x, 0, Kind.DIRTY, 1, 2, serial, number, clock);
+            x.tick(5);
+            c.due("SENT was 5 ago", x.flight(), 1);
+            x.deliver(0);
+            c.due("LISTED comes", x.deliver(0), 1);
+            c.message(x, 0, Kind.TAKEN, 1, 2, serial, 1, 0);
+            c.due("GOOD", x.slot(1, 0, 2), GOOD);
+            x.tick(1);
+            c.message(x, 1, Kind.DIRTY, 1, 2, serial, number + 1, clock + 6);
+        }
+    }
+
+    private static void objectInASlotUsedAgain() {
+        c.sentence("An object has two FIELDS 0 and 1, each nothing or a slot of its node that is not empty, a VALUE (an int, "
+                + "0 at first), and for each other node a LAST number, 0 at first, and a LISTING, which lasts until some time; "
+                + "at first there is none.");
+        for (int held = 1; held <= 2; held++) {
+            LeasedReferences x = Scenes.known();
+            x.call(1, 0, 9);
+            Scenes.deliverOldest(x, 2);
+            x.link(0, 0, 0, 0);
+            x.link(0, 0, 1, 0);
+            int node = held == 1 ? 0 : 1;
+            x.drop(0, 0);
+            x.drop(1, 0);
+            x.collect(1);
+            x.deliver(0);
+            x.collect(0);
+            c.due("the slot is empty", x.slot(node, 0, 0), 0);
+            c.due("make", x.make(node, 2), 1);
+            int[] parts = {1, 1, 0, NONE, NONE};
+            for (int which = 0; which <= 4; which++) {
+                c.due("slot(" + node + ", 0, " + which + ")", x.slot(node, 0, which), parts[which]);
+            }
+            for (int client = 0; client <= 3; client++) {
+                c.due("listing for " + client, x.listing(node, 0, client), client == node ? NONE : 0);
+            }
+            x.drop(node, 2);
+            c.due("nothing keeps it", x.collect(node), 1);
+            c.due("an object sends no CLEAN", x.flight(), 0);
+        }
     }
 
     private static void messagesHave() {

@@ -187,14 +187,14 @@ public final class LanguageTest {
 
     /** A method's body is a brace behind a parenthesis that no keyword opens, up to the brace that closes it. */
     private static void methodLengths(String code) {
-        Matcher head = Pattern.compile("\\b(\\w+)\\s*\\([^(){};]*\\)\\s*\\{").matcher(code);
+        Matcher head = Pattern.compile("(\\brecord\\s+)?\\b(\\w+)\\s*\\([^(){};]*\\)\\s*\\{").matcher(code);
         int methods = 0;
         while (head.find()) {
-            if (!head.group(1).matches("if|for|while|switch")) {
+            if (head.group(1) == null && !head.group(2).matches("if|for|while|switch")) {
                 methods++;
                 int end = closing(code, head.end());
                 long lines = code.substring(head.start(), end).lines().count();
-                c.isTrue(head.group(1) + " has " + lines + " lines", lines <= LINES);
+                c.isTrue(head.group(2) + " has " + lines + " lines", lines <= LINES);
             }
         }
         c.isTrue(methods + " methods, all of the face among them", methods >= HOST.getMethods().length - 9);

@@ -67,6 +67,8 @@ public final class EverySlotTest {
         new EverySlotTest(owner, at, client, k).gone();
         new EverySlotTest(owner, at, client, k).staleAgain();
         new EverySlotTest(owner, at, client, k).owesThePassThatCameLast();
+        new EverySlotTest(owner, at, client, k).olderThanFirst(Kind.LISTED);
+        new EverySlotTest(owner, at, client, k).olderThanFirst(Kind.GONE);
         new EverySlotTest(owner, at, client, k).dirtyAgain();
         new EverySlotTest(owner, at, client, k).listedInAnotherOrder();
         new EverySlotTest(owner, at, client, k).takenAtTheLast();
@@ -111,6 +113,14 @@ public final class EverySlotTest {
         newest(Kind.TAKEN, client, owner, serial, 1, 0);
         come("TAKEN");
         due("its pin ended", x.pins(owner), 0);
+    }
+
+    private void passedToTheThird(int id) {
+        due("pass to the third", x.pass(owner, 0, third, 1), id);
+        come("PASS to the third");
+        come("DIRTY of the third");
+        come("LISTED to the third");
+        come("TAKEN from the third");
     }
 
     // ---- the scenes ----
@@ -228,7 +238,8 @@ public final class EverySlotTest {
         newest(Kind.DIRTY, client, owner, serial, 4, BEGIN + 18);
         come("DIRTY 4");
         x.tick(2);
-        due("pass again", x.pass(owner, 0, client, 0), 2);
+        passedToTheThird(2);
+        due("pass from the third", x.pass(third, 1, client, 0), 3);
         come("PASS");
         due("the root", x.root(client, 0), k);
         due("PENDING", x.slot(client, k, 2), PENDING);
@@ -243,10 +254,11 @@ public final class EverySlotTest {
         come("DIRTY 5");
         come("LISTED 5");
         due("GOOD", x.slot(client, k, 2), GOOD);
-        newest(Kind.TAKEN, client, owner, serial, 2, 0);
+        newest(Kind.TAKEN, client, third, serial, 3, 0);
         x.tick(1);
-        due("sent 6 ago", x.flight(), flying + 3);
-        newest(Kind.DIRTY, client, owner, serial, 6, BEGIN + 32);
+        due("two surrogates, each sent for 6 ago, and two copies", x.flight(), flying + 4);
+        int its = client < third ? x.flight() - 2 : x.flight() - 1;
+        c.message(x, its, Kind.DIRTY, client, owner, serial, 6, BEGIN + 32);
     }
 
     private int placeOf(int kind) {
@@ -260,11 +272,7 @@ public final class EverySlotTest {
     /** The third node passes the object on to the client, too, while its surrogate is PENDING. */
     private void owesThePassThatCameLast() {
         c.sentence("If the node has a PENDING surrogate for it, the root refers to it, and it owes this pass now.");
-        due("pass to the third", x.pass(owner, 0, third, 1), 1);
-        come("PASS to the third");
-        come("DIRTY of the third");
-        come("LISTED to the third");
-        come("TAKEN from the third");
+        passedToTheThird(1);
         due("pass to the client", x.pass(owner, 0, client, 1), 2);
         come("PASS");
         newest(Kind.DIRTY, client, owner, serial, 1, BEGIN);
@@ -283,6 +291,38 @@ public final class EverySlotTest {
         due("the owner's did not", x.pins(owner), 1);
         due("the third is listed", x.listing(owner, at, third), 24);
         due("the client is listed", x.listing(owner, at, client), 24);
+    }
+
+    /** What the owner said to DIRTY 1 comes when the surrogate was freed, and made again with DIRTY 3. */
+    private void olderThanFirst(int kind) {
+        c.sentence("and NUMBER is not less than its FIRST.");
+        x.pass(owner, 0, client, 1);
+        x.copy(1);
+        if (kind == Kind.GONE) {
+            x.drop(owner, 0);
+            x.tick(12);
+            x.tick(12);
+            x.collect(owner);
+        }
+        come("PASS");
+        come("DIRTY 1");
+        newest(kind, owner, client, serial, 1);
+        x.drop(client, 0);
+        x.drop(client, 1);
+        due("freed", x.collect(client), k + 1);
+        loseNewest();
+        for (int i = 0; i < k; i++) {
+            x.make(client, 0);
+        }
+        due("PASS again", x.deliver(1), 1);
+        due("the slot again", x.root(client, 1), k);
+        newest(Kind.DIRTY, client, owner, serial, 3);
+        due("1 is less than FIRST", x.deliver(x.flight() - 2), 0);
+        due("PENDING", x.slot(client, k, 2), PENDING);
+        come("DIRTY 3");
+        newest(kind, owner, client, serial, 3);
+        come("3 is FIRST");
+        due("GOOD or STALE", x.slot(client, k, 2), kind == Kind.GONE ? STALE : GOOD);
     }
 
     private void dirtyAgain() {

@@ -41,6 +41,9 @@ public final class TermsBoundsTest {
         keptByFields();
         emptiedFromSlotZeroOn();
         usedFor512Calls();
+        serialsToTheEnd();
+        idsToTheEnd();
+        numbersToTheEnd();
         c.end();
     }
 
@@ -526,6 +529,14 @@ public final class TermsBoundsTest {
         c.due("six pins keep six", x.collect(0), 1);
         c.due("slot 5", x.slot(0, 5, 0), 1);
         c.due("slot 6", x.slot(0, 6, 0), 0);
+
+        x = Scenes.known();
+        Scenes.quietTicks(x, 23);
+        x.pass(1, 0, 2, 0);
+        x.drop(1, 0);
+        x.tick(1);
+        c.due("a surrogate that became STALE", x.slot(1, 0, 2), STALE);
+        c.due("is kept by its pin", x.collect(1), 0);
     }
 
     private static void keptByCall() {
@@ -595,6 +606,7 @@ public final class TermsBoundsTest {
         x.link(0, 0, 1, 0);
         x.drop(0, 0);
         c.due("an object that refers to itself alone", x.collect(0), 1);
+        keptByFieldsOfWhatIsNoRoots();
         x = twoSurrogates();
         x.make(1, 2);
         x.link(1, 2, 0, 0);
@@ -605,6 +617,29 @@ public final class TermsBoundsTest {
         x.link(1, 2, 0, -1);
         c.due("one of them no more", x.collect(1), 1);
         c.due("slot 0", x.slot(1, 0, 0), 0);
+    }
+
+    /** Of three objects the first is kept by a pin, or by a listing, and refers to the second, which refers to the third. */
+    private static void keptByFieldsOfWhatIsNoRoots() {
+        for (int listed = 0; listed <= 1; listed++) {
+            LeasedReferences x = new LeasedReferences();
+            for (int root = 0; root <= 2; root++) {
+                x.make(0, root);
+            }
+            x.link(0, 0, 1, 1);
+            x.link(0, 1, 0, 2);
+            x.pass(0, 0, 1, 0);
+            Scenes.deliverOldest(x, listed == 1 ? 4 : 0);
+            c.due("pins", x.pins(0), listed == 1 ? 0 : 1);
+            for (int root = 0; root <= 2; root++) {
+                x.drop(0, root);
+            }
+            c.due("all three", x.collect(0), 0);
+            Scenes.quietTicks(x, 23);
+            c.due("to the end", x.collect(0), 0);
+            x.tick(1);
+            c.due("and none then", x.collect(0), 3);
+        }
     }
 
     /** Eight objects of node 0, each in the field of the one in the slot before; only root 1 refers to the first. */
@@ -689,5 +724,68 @@ public final class TermsBoundsTest {
         }
         c.due("call 511", x.make(2, 0), 170);
         c.due("call 512", x.collect(2), 0);
+    }
+
+    private static void serialsToTheEnd() {
+        c.sentence("Objects have SERIALS 0, 1, 2, .. in the order in which they are made, over all nodes");
+        LeasedReferences x = new LeasedReferences();
+        int serial = 0;
+        for (int round = 0; round < 15; round++) {
+            for (int node = 0; node <= 3; node++) {
+                for (int i = round == 0 ? 0 : 1; i < 8; i++) {
+                    c.due("serial", x.make(node, 0), serial);
+                    serial++;
+                }
+                c.due("all but the newest", x.collect(node), 7);
+            }
+        }
+        c.due("made", serial, 424);
+        c.due("the newest", x.slot(3, x.root(3, 0), 1), 423);
+        c.due("pass", x.pass(3, 0, 0, 1), 0);
+        c.message(x, 0, Kind.PASS, 3, 0, 423, 0, 7);
+    }
+
+    private static void idsToTheEnd() {
+        c.sentence("passes have ids 0, 1, 2, .. over all nodes.");
+        LeasedReferences x = new LeasedReferences();
+        for (int node = 0; node <= 3; node++) {
+            x.make(node, 0);
+        }
+        int id = 0;
+        for (int round = 0; round < 17; round++) {
+            for (int i = 0; i < 24; i++) {
+                c.due("id", x.pass(i % 4, 0, (i + 1) % 4, 0), id);
+                id++;
+            }
+            x.tick(12);
+            x.tick(12);
+        }
+        x.lose(0);
+        c.due("the next", x.pass(2, 0, 1, 1), 408);
+        c.message(x, 31, Kind.PASS, 2, 1, 2, 408, 6);
+    }
+
+    /** Node 1 has six surrogates, which become PENDING again and again and are never listed: 24 DIRTYs in 24. */
+    private static void numbersToTheEnd() {
+        c.sentence("Each node numbers its DIRTYs and CLEANs together 1, 2, 3, ..");
+        LeasedReferences x = new LeasedReferences();
+        for (int i = 0; i < 6; i++) {
+            x.make(i < 3 ? 0 : 2, i % 3);
+        }
+        for (int round = 0; round < 20; round++) {
+            for (int i = 0; i < 6; i++) {
+                if (round > 0) {
+                    x.lose(0);
+                }
+                c.due("pass", x.pass(i < 3 ? 0 : 2, i % 3, 1, 0), 6 * round + i);
+                c.due("PASS comes", x.deliver(round == 0 ? i : round == 1 ? 23 : 31), 1);
+            }
+            x.tick(12);
+            x.tick(12);
+        }
+        Scenes.loseAll(x);
+        x.drop(1, 0);
+        c.due("six are freed", x.collect(1), 6);
+        c.message(x, 5, Kind.CLEAN, 1, 2, 5, 20 * 24 + 6, 0);
     }
 }

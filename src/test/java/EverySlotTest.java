@@ -72,6 +72,8 @@ public final class EverySlotTest {
         new EverySlotTest(owner, at, client, k).dirtyAgain();
         new EverySlotTest(owner, at, client, k).listedInAnotherOrder();
         new EverySlotTest(owner, at, client, k).takenAtTheLast();
+        new EverySlotTest(owner, at, client, k).callAgain();
+        new EverySlotTest(owner, at, client, k).callForWhatIsGone();
         new EverySlotTest(owner, at, client, k).callFails();
     }
 
@@ -380,11 +382,61 @@ public final class EverySlotTest {
 
         due("a pass that is lost", x.pass(owner, 0, client, 1), 2);
         Scenes.loseAll(x);
+        x.drop(owner, 0);
+        x.drop(owner, 1);
         x.tick(12);
         x.tick(11);
         due("its pin lasts for 24", x.pins(owner), 1);
+        due("and keeps the object", x.collect(owner), at);
         x.tick(1);
         due("it ended", x.pins(owner), 0);
+        due("and keeps nothing", x.collect(owner), 1);
+    }
+
+    private void callAgain() {
+        c.sentence("If NUMBER is that of the latest call, the kept reply is sent again; if it is less, it is dropped.");
+        passedOn();
+        for (int number = 1; number <= 2; number++) {
+            due("call", x.call(client, 1, 10 * number), number);
+            x.copy(x.flight() - 1);
+            come("CALL");
+            newest(Kind.ANSWER, owner, client, serial, number, number == 1 ? 10 : 30);
+            come("ANSWER");
+        }
+        int older = placeOf(Kind.CALL);
+        c.message(x, older, Kind.CALL, client, owner, serial, 1, 10);
+        due("CALL 1 again", x.deliver(older), 0);
+        int latest = placeOf(Kind.CALL);
+        c.message(x, latest, Kind.CALL, client, owner, serial, 2, 20);
+        due("CALL 2 again", x.deliver(latest), 1);
+        newest(Kind.ANSWER, owner, client, serial, 2, 30);
+        due("the value", x.slot(owner, at, 2), 30);
+        due("the RESULT", x.outcome(client, 2), 30);
+    }
+
+    private void callForWhatIsGone() {
+        c.sentence("else the reply is NOOBJECT with the serial, NUMBER and EXTRA 0. The reply is kept and sent.");
+        passedOn();
+        x.call(client, 1, 3);
+        come("CALL");
+        come("ANSWER");
+        x.tick(12);
+        x.tick(11);
+        due("call", x.call(client, 1, 4), 2);
+        x.copy(x.flight() - 1);
+        x.drop(owner, 0);
+        x.drop(owner, 1);
+        x.tick(1);
+        due("freed", x.collect(owner), at + 1);
+        come("CALL");
+        newest(Kind.NOOBJECT, owner, client, serial, 2, 0);
+        come("NOOBJECT");
+        due("FAILED", x.outcome(client, 0), 3);
+        due("its number", x.outcome(client, 1), 2);
+        due("the RESULT of the one before", x.outcome(client, 2), 3);
+        due("CALL again", x.deliver(placeOf(Kind.CALL)), 1);
+        newest(Kind.NOOBJECT, owner, client, serial, 2, 0);
+        due("NOOBJECT again", x.deliver(x.flight() - 1), 0);
     }
 
     private void callFails() {

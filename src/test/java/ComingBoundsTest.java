@@ -41,6 +41,7 @@ public final class ComingBoundsTest {
         callOfEachClient();
         callWraps();
         callWithoutObject();
+        callWithoutObjectIsDone();
         keptReplyIsAsItWas();
         replyToWaitingCall();
         replyOfAnotherNumber();
@@ -728,6 +729,30 @@ public final class ComingBoundsTest {
         c.due("not dropped", x.deliver(0), 1);
         c.message(x, 0, Kind.NOOBJECT, 0, 3, 1, 2, 0);
         c.due("no other object's value", x.slot(0, 0, 2), 0);
+    }
+
+    /** CALL 1, for an object that is there, comes only when CALL 2, for one that is gone, came. */
+    private static void callWithoutObjectIsDone() {
+        c.sentence("the latest call from c that the node has done");
+        LeasedReferences x = Scenes.known();
+        x.make(0, 1);
+        Scenes.quietTicks(x, 22);
+        x.pass(0, 1, 1, 1);
+        Scenes.deliverOldest(x, 4);
+        x.drop(0, 1);
+        c.due("call", x.call(1, 0, 5), 1);
+        x.tick(3);
+        c.due("it FAILED", x.outcome(1, 0), FAILED);
+        x.tick(12);
+        x.tick(8);
+        c.due("clock 45: the other surrogate is GOOD", x.call(1, 1, 7), 2);
+        x.tick(1);
+        c.due("its object is freed", x.collect(0), 1);
+        c.due("CALL 2", x.deliver(x.flight() - 1), 1);
+        c.message(x, x.flight() - 1, Kind.NOOBJECT, 0, 1, 1, 2, 0);
+        c.message(x, 0, Kind.CALL, 1, 0, 0, 1, 5);
+        c.due("1 < 2", x.deliver(0), 0);
+        c.due("its object's value", x.slot(0, 0, 2), 0);
     }
 
     private static void keptReplyIsAsItWas() {

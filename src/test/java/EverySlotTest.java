@@ -418,6 +418,7 @@ public final class EverySlotTest {
         c.sentence("else the reply is NOOBJECT with the serial, NUMBER and EXTRA 0. The reply is kept and sent.");
         passedOn();
         x.call(client, 1, 3);
+        x.copy(x.flight() - 1);
         come("CALL");
         come("ANSWER");
         x.tick(12);
@@ -434,7 +435,8 @@ public final class EverySlotTest {
         due("FAILED", x.outcome(client, 0), 3);
         due("its number", x.outcome(client, 1), 2);
         due("the RESULT of the one before", x.outcome(client, 2), 3);
-        due("CALL again", x.deliver(placeOf(Kind.CALL)), 1);
+        due("CALL 1 again", x.deliver(placeOf(Kind.CALL)), 0);
+        due("CALL 2 again", x.deliver(placeOf(Kind.CALL)), 1);
         newest(Kind.NOOBJECT, owner, client, serial, 2, 0);
         due("NOOBJECT again", x.deliver(x.flight() - 1), 0);
     }
